@@ -31,9 +31,12 @@ public final class PromisesTest {
         promise14();
         promise14None();
         promise15();
+        promise15AllOfF();
         promise15None();
         promise16();
+        aheadWithAllOfF();
         promise17();
+        numbersFarOff();
         Check.close("PromisesTest");
     }
 
@@ -616,6 +619,18 @@ public final class PromisesTest {
         Check.answers("F is turned over", 8, () -> g.smoothed(0, 0, 1));
     }
 
+    /** With Q 0 the way back is F inverted, and x at 1, which is 5, 11, is F times 1, 2. */
+    private static void promise15AllOfF() {
+        FieldFilter f = still();
+        entries(f, 0, 1, 2, 3, 4, 0, 0, 0);
+        f.begin(0, 0, 0, 1, 0, 1);
+        f.predict(0);
+        f.measure(0, 1, 0, 1, M - 4);
+        state("P was 5, 11, 25: S 1, K 5, 11, y 1", f, 0, 5, 11);
+        Check.answers("through F inverted", 1, () -> f.smoothed(0, 0, 0));
+        Check.answers("through F inverted", 2, () -> f.smoothed(0, 0, 1));
+    }
+
     private static void promise15None() {
         FieldFilter f = still();
         entries(f, 0, 1, 0, 0, 1, 1, 0, 1);
@@ -701,5 +716,59 @@ public final class PromisesTest {
             Check.noSuch("no estimator comes ahead of what " + what, () -> f.aheadAnew(1, -1, what));
         }
         Check.noSuch("estimator -1", () -> f.aheadAnew(-1, 0, 0));
+    }
+
+    private static void aheadWithAllOfF() {
+        FieldFilter f = still();
+        entries(f, 0, 1, 2, 3, 4, 5, 6, 7);
+        f.begin(0, 1, 1, 0, 0, 0);
+        int[][] due = {{1, 1, 0, 0, 0}, {3, 7, 5, 6, 7}, {17, 37, 62, 137, 308}, {91, 199, 1847, 4026, 8781}};
+        for (int times = 0; times < due.length; times++) {
+            aheadIs(f, times, due[times]);
+        }
+        FieldFilter g = still();
+        entries(g, 0, 1, 2, 3, 4, 5, 6, 7);
+        g.begin(0, 1, 1, 0, 0, 0);
+        for (int times = 1; times <= 20; times++) {
+            g.predict(0);
+            int[] now = new int[5];
+            for (int what = 0; what < 5; what++) {
+                now[what] = g.of(0, what);
+            }
+            aheadIs(f, times, now);
+        }
+    }
+
+    private static void aheadIs(FieldFilter f, int times, int[] due) {
+        for (int what = 0; what < 5; what++) {
+            int asked = what;
+            Check.answers("number " + what + " ahead by " + times, due[what], () -> f.ahead(0, times, asked));
+            Check.answers("number " + what + " anew by " + times, due[what], () -> f.aheadAnew(0, times, asked));
+        }
+    }
+
+    /** Numbers that are not just one too great. */
+    private static void numbersFarOff() {
+        FieldFilter f = resting();
+        f.measure(0, 1, 0, 0, 1);
+        for (int number : new int[] {2, 5, 6, 29, 30, 31, Integer.MAX_VALUE, Integer.MIN_VALUE}) {
+            Check.noSuch("entry of model " + number, () -> f.entry(number, 0, 0));
+            Check.noSuch("begin of model " + number, () -> f.begin(number, 0, 0, 0, 0, 0));
+            Check.noSuch("gate of " + number, () -> f.gate(number, 0));
+            Check.noSuch("predict of " + number, () -> f.predict(number));
+            Check.noSuch("measure of " + number, () -> f.measure(number, 1, 0, 0, 1));
+            Check.noSuch("late of " + number, () -> f.late(number, 0, 1, 0, 0, 1));
+            Check.noSuch("drop of " + number, () -> done(() -> f.drop(number, 0)));
+            Check.noSuch("drop of measurement " + number, () -> done(() -> f.drop(0, number)));
+            Check.noSuch("of " + number, () -> f.of(number, 0));
+            Check.noSuch("ofMeasurement of " + number, () -> f.ofMeasurement(number, 0, 0));
+            Check.noSuch("ofMeasurement of measurement " + number, () -> f.ofMeasurement(0, number, 0));
+            Check.noSuch("gain of " + number, () -> f.gain(number, 1, 0, 1, 0));
+            Check.noSuch("information of " + number, () -> f.information(number, 0));
+            Check.noSuch("anew of " + number, () -> f.anew(number, 0));
+            Check.noSuch("smoothed of " + number, () -> f.smoothed(number, 0, 0));
+            Check.noSuch("ahead of " + number, () -> f.ahead(number, 0, 0));
+            Check.noSuch("aheadAnew of " + number, () -> f.aheadAnew(number, 0, 0));
+        }
     }
 }
