@@ -5,7 +5,10 @@ import java.util.List;
 import java.util.regex.Matcher;
 import java.util.regex.Pattern;
 
-/** Words that LANGUAGE.md rules out, or the class does without, must not stand in it; the argument is the path of FieldFilter.java. */
+/**
+ * Words that LANGUAGE.md rules out, or that the class does without, must not stand in it; the argument is the path of
+ * FieldFilter.java.
+ */
 public final class LanguageTest {
     private static final String[] RULED_OUT = {
         "\\bimport\\b", "\\bpackage\\b", "->", "::", "\\bcatch\\b", "\\bfinally\\b", "\\bassert\\b", "\\bsynchronized\\b",
