@@ -5,9 +5,8 @@ import java.util.Random;
 public final class AgreementTest {
     private static final int RUNS = 1500;
     private static final int CALLS = 512;
-    private static final String[] NAMES = {"model", "entry", "begin", "gate", "predict", "measure", "late", "drop", "of",
-        "ofMeasurement", "gain", "information", "anew", "smoothed", "ahead", "aheadAnew"};
-    private static final int[] COUNTS = {0, 3, 6, 2, 1, 5, 6, 2, 2, 3, 5, 2, 2, 3, 3, 3};
+    private static final String[] NAMES = Calls.NAMES;
+    private static final int[] COUNTS = Calls.COUNTS;
     // Odds of each call, so that estimators live long and are asked much.
     private static final int[] ODDS = {2, 6, 5, 4, 8, 14, 16, 8, 14, 14, 6, 6, 8, 8, 6, 3};
 
@@ -40,7 +39,7 @@ public final class AgreementTest {
             int name = call == 0 ? 0 : call < 6 ? 1 : call == 6 ? 2 : draw();
             int[] a = arguments(name, plain);
             String due = Check.outcome(() -> askPlain(plain, name, a));
-            String got = Check.outcome(() -> askFilter(filter, name, a));
+            String got = Check.outcome(() -> Calls.ask(filter, NAMES[name], a));
             before.append(NAMES[name]).append(Arrays.toString(a)).append(" = ").append(got).append('\n');
             if (due.startsWith("throws.")) {
                 thrown[name]++;
@@ -119,27 +118,6 @@ public final class AgreementTest {
             return 10006 - random.nextInt(3);
         }
         return tame && kind == 3 ? 0 : random.nextInt(10007);
-    }
-
-    private static long askFilter(FieldFilter f, int name, int[] a) {
-        switch (NAMES[name]) {
-            case "model": return f.model();
-            case "entry": return f.entry(a[0], a[1], a[2]);
-            case "begin": return f.begin(a[0], a[1], a[2], a[3], a[4], a[5]);
-            case "gate": return f.gate(a[0], a[1]);
-            case "predict": return f.predict(a[0]);
-            case "measure": return f.measure(a[0], a[1], a[2], a[3], a[4]);
-            case "late": return f.late(a[0], a[1], a[2], a[3], a[4], a[5]);
-            case "drop": f.drop(a[0], a[1]); return 0;
-            case "of": return f.of(a[0], a[1]);
-            case "ofMeasurement": return f.ofMeasurement(a[0], a[1], a[2]);
-            case "gain": return f.gain(a[0], a[1], a[2], a[3], a[4]);
-            case "information": return f.information(a[0], a[1]);
-            case "anew": return f.anew(a[0], a[1]);
-            case "smoothed": return f.smoothed(a[0], a[1], a[2]);
-            case "ahead": return f.ahead(a[0], a[1], a[2]);
-            default: return f.aheadAnew(a[0], a[1], a[2]);
-        }
     }
 
     private static long askPlain(PlainFilter f, int name, int[] a) {

@@ -1,3 +1,8 @@
+import java.lang.reflect.InvocationTargetException;
+import java.lang.reflect.Method;
+import java.util.Arrays;
+import java.util.Comparator;
+
 /** What the tests share: they count what is wrong, and end with exit code 1 if something was. */
 final class Check {
     interface Call {
@@ -6,6 +11,7 @@ final class Check {
 
     private static int checks;
     private static int wrong;
+    private static String test = "";
 
     private Check() {
     }
@@ -14,7 +20,7 @@ final class Check {
         checks++;
         if (!holds) {
             wrong++;
-            System.out.println("wrong: " + what);
+            System.out.println("wrong: " + test + what);
         }
     }
 
@@ -47,6 +53,39 @@ final class Check {
         } catch (RuntimeException e) {
             return "throws." + e.getClass().getSimpleName();
         }
+    }
+
+    /**
+     * Runs every method whose name begins with "promise" and a number, so that none can be forgotten; each promise from
+     * the first to the last must have one.
+     */
+    static void runPromises(Class<?> tests, int first, int last) {
+        boolean[] tested = new boolean[last + 1];
+        Method[] methods = tests.getDeclaredMethods();
+        Arrays.sort(methods, Comparator.comparing(Method::getName));
+        for (Method method : methods) {
+            String number = method.getName().replaceAll("promise(\\d+)\\w*", "$1");
+            if (!number.equals(method.getName())) {
+                tested[Integer.parseInt(number)] = true;
+                runOne(method);
+            }
+        }
+        for (int promise = first; promise <= last; promise++) {
+            that("promise " + promise + " has no test in " + tests.getSimpleName(), tested[promise]);
+        }
+        close(tests.getSimpleName());
+    }
+
+    private static void runOne(Method method) {
+        test = method.getName() + ": ";
+        try {
+            method.invoke(null);
+        } catch (InvocationTargetException e) {
+            that("ended with " + e.getCause(), false);
+        } catch (IllegalAccessException e) {
+            that("could not be run", false);
+        }
+        test = "";
     }
 
     static void close(String name) {

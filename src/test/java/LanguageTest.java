@@ -11,7 +11,8 @@ import java.util.regex.Pattern;
  */
 public final class LanguageTest {
     private static final String[] RULED_OUT = {
-        "\\bimport\\b", "\\bpackage\\b", "->", "::", "\\bcatch\\b", "\\bfinally\\b", "\\bassert\\b", "\\bsynchronized\\b",
+        "\\bimport\\b", "\\bpackage\\b", "->", "::", "\\bcatch\\b", "\\bfinally\\b", "\\bassert\\b",
+        "\\bsynchronized\\b",
         "\\w+Exact\\b", "\\bprotected\\b", "\\bRandom\\b", "\\bSystem\\.(?!arraycopy)", "\\bThread\\b", "\\bNaN\\b",
         "\\bdouble\\b", "\\bfloat\\b", "\\bvar\\b", "\\bequals\\b", "\\bhashCode\\b", "\\btoString\\b",
         "\\bMath\\.(?!(floorMod|max|min|abs)\\b)", "static\\s*\\{", "@\\w+"};
