@@ -576,7 +576,7 @@ public final class QuestionEdgesTest {
         }
     }
 
-    /** "Such an r": also of one with h 0, 0 or y 0 it must not be 0; and 1 and 10006 are as good as any. */
+    /** "Such an r is 0", where y is 0 as well; next to that 1 and 10006 are as good as any. */
     static void promise14WhereRIsNext() {
         for (int r : new int[] {1, M - 1}) {
             Bench f = resting();
@@ -804,14 +804,14 @@ public final class QuestionEdgesTest {
         f.state(0, 0, 0);
         f.answers(0, "smoothed", 0, 0, 0);
         f.answers(0, "smoothed", 0, 0, 1);
-        // F is -1, -2, -3, -4; P is -1, 0, -1 and then -5, -11, -25; x at 1 is F times -1, -2.
+        // F is -1, -2, -3, -4; P is -1, 0, -1 and then -5, -11, -25, S -1 and K 16, 36, which is F times -4, -6.
         Bench g = model(M - 1, M - 2, M - 3, M - 4, 0, 0, 0);
         g.does("begin", 0, 0, 0, M - 1, 0, M - 1);
         predictTo(g, 1);
-        g.answers(0, "measure", 0, 1, 0, 1, 4);
-        g.state(0, 5, 11);
-        g.answers(M - 1, "smoothed", 0, 0, 0);
-        g.answers(M - 2, "smoothed", 0, 0, 1);
+        g.answers(0, "measure", 0, 1, 1, 1, 51);
+        g.state(0, 16, 36);
+        g.answers(M - 4, "smoothed", 0, 0, 0);
+        g.answers(M - 6, "smoothed", 0, 0, 1);
     }
 
     /** "Questions change nothing." */
