@@ -77,6 +77,8 @@ public final class FaceTest {
             Check.that(field.getName() + " is static and not final",
                     !isStatic || Modifier.isFinal(field.getModifiers()));
             if (!Modifier.isPrivate(field.getModifiers())) {
+                Check.that(field.getName() + " is a public constant int",
+                        isStatic && Modifier.isPublic(field.getModifiers()) && field.getType() == int.class);
                 found.add(field.getName());
             }
         }
